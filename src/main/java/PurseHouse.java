@@ -40,13 +40,18 @@ public final class PurseHouse {
     private final int[] freeValues = new int[Purse.COIN_LIMIT];
 
     public PurseHouse() {
-        sha = new Sha();
-        Modulus order = new Modulus(Modulus.ORDER, Modulus.ORDER_OVER, Modulus.ORDER_INVERSE);
+        Sha hasher = new Sha();
         Curve curve = new Curve();
-        signer = new Signer(sha, curve, order);
-        keys = new KeyRing(sha, curve, order);
-        makers = new Makers(sha, signer);
-        purse = new Purse(sha, keys, makers.makeFirst());
+        Modulus order = new Modulus(Modulus.ORDER, Modulus.ORDER_OVER);
+        Signer witness = new Signer(hasher, curve, order);
+        KeyRing ring = new KeyRing(hasher, curve, order);
+        Makers all = new Makers(hasher, witness);
+        all.complete(all.begin(null, Makers.NOBODY), 0);
+        sha = hasher;
+        signer = witness;
+        keys = ring;
+        makers = all;
+        purse = new Purse(hasher, ring, all.blockAt(0));
     }
 
     // ---- the tape
@@ -145,11 +150,14 @@ public final class PurseHouse {
         if (makers.isDone()) {
             return FULL;
         }
-        if (tapeLength < ADDRESS_BYTES) {
-            return makers.makeOn(before, seconds, Makers.NOBODY);
+        byte[] payee = Makers.NOBODY;
+        if (tapeLength >= ADDRESS_BYTES) {
+            payee = tape;
+            tapeLength = 0;
         }
-        tapeLength = 0;
-        return makers.makeOn(before, seconds, tape);
+        Block one = makers.begin(before, payee);
+        makers.takeGood(one);
+        return makers.complete(one, seconds);
     }
 
     public int block(int b, int what) {
@@ -716,16 +724,14 @@ public final class PurseHouse {
 
         private final long[] whole;
         private final long[] over;
-        private final int[] inverse;
         private final long[] wide = new long[WIDE_TOP + 1];
         private final long[] settled = new long[LIMBS];
         private final long[][] powers = new long[16][LIMBS];
 
-        /** What 2^261 leaves is given by over; the inverse of x is x to the power inverse. */
-        Modulus(long[] whole, long[] over, int[] inverse) {
+        /** The limbs of the prime, and of what it leaves of 2^261. */
+        Modulus(long[] whole, long[] over) {
             this.whole = whole;
             this.over = over;
-            this.inverse = inverse;
         }
 
         void multiply(long[] to, long[] a, long[] b) {
@@ -813,10 +819,6 @@ public final class PurseHouse {
                     multiply(to, to, powers[digit]);
                 }
             }
-        }
-
-        void invert(long[] to, long[] a) {
-            power(to, a, inverse);
         }
 
         void setSmall(long[] to, int value) {
@@ -940,6 +942,13 @@ public final class PurseHouse {
             nothing = other.nothing;
             plain = other.plain;
         }
+
+        void makePlain() {
+            Arrays.fill(z, 0L);
+            z[0] = 1;
+            plain = true;
+            nothing = false;
+        }
     }
 
     /** Sums of points, and the way from points to bytes and back. */
@@ -952,7 +961,7 @@ public final class PurseHouse {
             454087864L, 37651583L, 22349415L, 258511181L, 277516241L, 503187208L, 295007891L, 249877624L, 4733658L
         };
 
-        private final Modulus field = new Modulus(Modulus.PRIME, Modulus.PRIME_OVER, Modulus.PRIME_INVERSE);
+        private final Modulus field = new Modulus(Modulus.PRIME, Modulus.PRIME_OVER);
         private final long[][] rows = new long[8][Modulus.LIMBS];
         private final long[] seven = new long[Modulus.LIMBS];
         private final Point[] table = new Point[DIGITS];
@@ -978,7 +987,7 @@ public final class PurseHouse {
             prepared = true;
             System.arraycopy(BASE_X, 0, table[0].x, 0, Modulus.LIMBS);
             System.arraycopy(BASE_Y, 0, table[0].y, 0, Modulus.LIMBS);
-            makePlain(table[0]);
+            table[0].makePlain();
             for (int j = 1; j < DIGITS; j++) {
                 twice(table[j], table[j - 1]);
                 for (int i = 1; i < 4; i++) {
@@ -997,18 +1006,12 @@ public final class PurseHouse {
             }
             long[] rest = rows[2];
             long[] one = rows[3];
-            field.invert(rest, products[DIGITS - 1]);
+            field.power(rest, products[DIGITS - 1], Modulus.PRIME_INVERSE);
             for (int j = DIGITS - 1; j > 0; j--) {
                 field.multiply(one, rest, products[j - 1]);
                 field.multiply(rest, rest, table[j].z);
                 scale(table[j], one);
             }
-        }
-
-        private void makePlain(Point p) {
-            field.setSmall(p.z, 1);
-            p.plain = true;
-            p.nothing = false;
         }
 
         private void scale(Point p, long[] inverse) {
@@ -1017,14 +1020,14 @@ public final class PurseHouse {
             field.multiply(p.x, p.x, square);
             field.multiply(square, square, inverse);
             field.multiply(p.y, p.y, square);
-            makePlain(p);
+            p.makePlain();
         }
 
         void settle(Point p) {
             if (p.nothing || p.plain) {
                 return;
             }
-            field.invert(rows[1], p.z);
+            field.power(rows[1], p.z, Modulus.PRIME_INVERSE);
             scale(p, rows[1]);
         }
 
@@ -1059,38 +1062,44 @@ public final class PurseHouse {
                 to.copyFrom(p.nothing ? q : p);
                 return true;
             }
+            long[] square = rows[4];
+            long[] cube = rows[5];
             long[] x1 = p.x;
             long[] y1 = p.y;
-            long[] x2 = q.x;
-            long[] y2 = q.y;
             if (!q.plain) {
                 x1 = rows[0];
                 y1 = rows[1];
-                level(x1, y1, p, q.z);
+                field.multiply(square, q.z, q.z);
+                field.multiply(cube, square, q.z);
+                field.multiply(x1, p.x, square);
+                field.multiply(y1, p.y, cube);
             }
+            long[] x2 = q.x;
+            long[] y2 = q.y;
             if (!p.plain) {
                 x2 = rows[2];
                 y2 = rows[3];
-                level(x2, y2, q, p.z);
+                field.multiply(square, p.z, p.z);
+                field.multiply(cube, square, p.z);
+                field.multiply(x2, q.x, square);
+                field.multiply(y2, q.y, cube);
             }
-            long[] run = rows[4];
-            long[] rise = rows[5];
+            long[] run = rows[6];
+            long[] rise = rows[7];
             field.addTimes(run, x2, x1, -1);
             field.addTimes(rise, y2, y1, -1);
             if (field.isZero(run)) {
                 to.nothing = !field.isZero(rise);
                 return to.nothing;
             }
-            long[] square = rows[6];
-            long[] cube = rows[7];
             field.multiply(square, run, run);
             field.multiply(cube, run, square);
             field.multiply(square, x1, square);
             field.multiply(rows[1], y1, cube);
-            field.multiply(to.z, p.z, run);
             if (!q.plain) {
-                field.multiply(to.z, to.z, q.z);
+                field.multiply(run, run, q.z);
             }
+            field.multiply(to.z, p.z, run);
             field.multiply(rows[2], rise, rise);
             field.addTimes(rows[2], rows[2], cube, -1);
             field.addTimes(to.x, rows[2], square, -2);
@@ -1100,15 +1109,6 @@ public final class PurseHouse {
             to.nothing = false;
             to.plain = false;
             return true;
-        }
-
-        /** Brings the x and y of p to a row where they can be compared with those of a point that has z. */
-        private void level(long[] x, long[] y, Point p, long[] z) {
-            long[] square = rows[6];
-            field.multiply(square, z, z);
-            field.multiply(x, p.x, square);
-            field.multiply(square, square, z);
-            field.multiply(y, p.y, square);
         }
 
         /** Adds up, from digit 15 down, all points of the table whose digit is at least that. */
@@ -1189,7 +1189,7 @@ public final class PurseHouse {
             if (field.isOdd(to.y) != (from[at] == 3)) {
                 field.addTimes(to.y, to.y, to.y, -2);
             }
-            makePlain(to);
+            to.makePlain();
             return true;
         }
     }
@@ -1251,7 +1251,7 @@ public final class PurseHouse {
             curve.settle(spot);
             curve.writeX(spot, scalar, 0);
             order.read(r, scalar, 0);
-            order.invert(t, t);
+            order.power(t, t, Modulus.ORDER_INVERSE);
             order.read(s, node, KeyRing.SECRET);
             order.multiply(s, s, r);
             order.addTimes(s, s, z, 1);
@@ -1285,7 +1285,7 @@ public final class PurseHouse {
                 return false;
             }
             readMessage(id, input);
-            order.invert(t, s);
+            order.power(t, s, Modulus.ORDER_INVERSE);
             order.multiply(z, z, t);
             order.write(z, scalar, 0);
             curve.timesBase(spot, scalar);
@@ -1460,16 +1460,23 @@ public final class PurseHouse {
         private final int inputs;
         private final int outputs;
         private final int body;
-        private final byte[] id = new byte[HASH_BYTES];
+        private final byte[] id;
         /** Of each witness: 0 while nobody looked, 1 if it is right, 2 if not: a look is dear. */
         private final int[] proof = new int[INPUT_LIMIT];
 
-        Payment(byte[] bytes, int body, Sha sha) {
+        private Payment(byte[] bytes, int body, byte[] id) {
             this.bytes = bytes;
             this.body = body;
+            this.id = id;
             inputs = bytes[0];
             outputs = (body - headBytes(inputs)) / OUTPUT_BYTES;
+        }
+
+        /** A payment of bytes that can be read, the first ones of which are its body. */
+        static Payment of(byte[] bytes, int body, Sha sha) {
+            byte[] id = new byte[HASH_BYTES];
             sha.hashOf(bytes, 0, body, id);
+            return new Payment(bytes, body, id);
         }
 
         private static int headBytes(int inputs) {
@@ -1730,7 +1737,7 @@ public final class PurseHouse {
                     || body + WITNESS_BYTES * bytes[0] != bytes.length) {
                 return false;
             }
-            Payment one = new Payment(bytes, body, sha);
+            Payment one = Payment.of(bytes, body, sha);
             if (!one.hasProperValues()) {
                 return false;
             }
@@ -1739,26 +1746,42 @@ public final class PurseHouse {
             return true;
         }
 
-        Block makeFirst() {
-            makeOn(null, 0, NOBODY);
-            return blocks[0];
-        }
-
-        /** Makes a block behind one (behind none, if that is null) and answers its number. */
-        int makeOn(Block before, int seconds, byte[] payee) {
-            if (blockCount >= BLOCK_LIMIT) {
-                return FULL;
-            }
+        /** A block behind one (behind none, if that is null), so far with its mint alone. */
+        Block begin(Block before, byte[] payee) {
             Block one = new Block(before, blockCount);
             one.addPayment(makeMint(blockCount, payee));
-            takeGood(one);
-            byte[] header = one.header;
-            if (before != null) {
-                System.arraycopy(before.id, 0, header, 0, HASH_BYTES);
+            return one;
+        }
+
+        /** Adds what waits and is good in the block. */
+        void takeGood(Block one) {
+            int kept = 0;
+            for (int i = 0; i < queueLength; i++) {
+                Payment payment = queue[i];
+                if (one.count < Block.PAYMENT_LIMIT && isGood(payment, one)) {
+                    one.addPayment(payment);
+                } else {
+                    queue[kept] = payment;
+                    kept++;
+                }
             }
-            int time = before == null ? 0 : before.time() + seconds;
-            storeWord(time, header, Block.TIME);
-            header[Block.DIFFICULTY] = (byte) (before == null ? Block.FIRST_BITS : before.bitsOfNext());
+            queueLength = kept;
+        }
+
+        /** Makes the header of a block that has all its payments, and answers its number. */
+        int complete(Block one, int seconds) {
+            if (isDone()) {
+                return FULL;
+            }
+            Block before = one.before;
+            byte[] header = one.header;
+            if (before == null) {
+                header[Block.DIFFICULTY] = Block.FIRST_BITS;
+            } else {
+                System.arraycopy(before.id, 0, header, 0, HASH_BYTES);
+                storeWord(before.time() + seconds, header, Block.TIME);
+                header[Block.DIFFICULTY] = (byte) before.bitsOfNext();
+            }
             for (int i = 0; i < one.count; i++) {
                 System.arraycopy(one.payments[i].id, 0, ids, HASH_BYTES * i, HASH_BYTES);
             }
@@ -1780,21 +1803,7 @@ public final class PurseHouse {
             bytes[3] = 1;
             storeWord(MINTED, bytes, 4);
             System.arraycopy(payee, 0, bytes, 8, ADDRESS_BYTES);
-            return new Payment(bytes, Payment.MINT_BYTES, sha);
-        }
-
-        private void takeGood(Block one) {
-            int kept = 0;
-            for (int i = 0; i < queueLength; i++) {
-                Payment payment = queue[i];
-                if (one.count < Block.PAYMENT_LIMIT && isGood(payment, one)) {
-                    one.addPayment(payment);
-                } else {
-                    queue[kept] = payment;
-                    kept++;
-                }
-            }
-            queueLength = kept;
+            return Payment.of(bytes, Payment.MINT_BYTES, sha);
         }
 
         private boolean isGood(Payment payment, Block one) {

@@ -1,0 +1,182 @@
+import java.util.Random;
+
+/** Long runs of likely and unlikely calls, all promises at once, against the reference. */
+public final class WanderTest {
+    private final Random random;
+    private final Pair p;
+
+    private WanderTest(long seed, Due due) {
+        random = new Random(seed);
+        p = new Pair(due);
+    }
+
+    public static void main(String[] args) {
+        int runs = args.length > 0 ? Integer.parseInt(args[0]) : 24;
+        int first = args.length > 1 ? Integer.parseInt(args[1]) : 1;
+        Due due = new Due("wandering");
+        for (int run = first; run < first + runs; run++) {
+            WanderTest one = new WanderTest(run, due);
+            one.wander(140 + run % 5 * 60);
+        }
+        due.end();
+    }
+
+    private int pick(int n) {
+        return random.nextInt(n);
+    }
+
+    private void wander(int steps) {
+        p.give(0, 1, 0, 0);
+        p.give(0, 2, 0, 0);
+        if (pick(8) > 0) {
+            p.plant(pick(3));
+        }
+        for (int step = 0; step < steps; step++) {
+            step();
+            if (pick(12) == 0) {
+                p.look();
+            }
+        }
+        p.look();
+        p.lookAtMade();
+        p.lookAtDrafts();
+    }
+
+    private void step() {
+        int blocks = p.y.made.size();
+        switch (pick(20)) {
+            case 0 -> tape();
+            case 1, 2, 3, 4 -> mineSome(blocks);
+            case 5, 6 -> giveSome(blocks);
+            case 7 -> giveLast(blocks);
+            case 8 -> p.gap(pick(10));
+            case 9, 10, 11 -> paySome();
+            case 12, 13 -> p.sign(someDraft());
+            case 14, 15, 16 -> sendSome();
+            case 17 -> {
+                if (pick(4) == 0) {
+                    p.drop(someDraft());
+                } else {
+                    p.check(someDraft());
+                }
+            }
+            case 18 -> rare();
+            default -> p.look();
+        }
+    }
+
+    private void tape() {
+        switch (pick(5)) {
+            case 0 -> p.feed(pick(5), pick(5), random.nextInt(), pick(5), pick(5));
+            case 1 -> p.cut(pick(60) - 5);
+            case 2 -> p.hash(pick(3), pick(9));
+            case 3 -> p.address(pick(2), pick(34) - 1);
+            default -> p.key(pick(3) - pick(2), pick(36) - 2, pick(36) - 2);
+        }
+    }
+
+    private void rare() {
+        switch (pick(8)) {
+            case 0 -> p.plant(pick(3));
+            case 1 -> p.seed();
+            case 2 -> p.forget();
+            default -> wild();
+        }
+    }
+
+    private int odd() {
+        int[] ends = {-1, -2, 0, 1, 2, 255, 256, Integer.MAX_VALUE, Integer.MIN_VALUE, 200, 64, 1001, 40, 60, 16};
+        return pick(3) == 0 ? random.nextInt() : ends[pick(ends.length)];
+    }
+
+    private void wild() {
+        p.cut(odd());
+        p.hash(odd(), odd());
+        p.gap(pick(3) == 0 ? odd() : 0);
+        p.key(odd(), odd(), odd());
+        p.address(odd(), odd());
+        p.mine(odd(), 1001);
+        p.block(odd(), odd());
+        p.payment(odd(), odd(), odd());
+        p.filterByte(odd(), odd());
+        p.give(odd(), odd(), odd(), odd());
+        p.header(odd(), odd());
+        p.chain(odd());
+        p.last(odd());
+        p.coin(odd(), odd());
+        p.sum(odd());
+        p.pay(odd(), odd());
+        p.draft(odd(), odd());
+        p.sign(odd());
+        p.draftByte(odd(), odd());
+        p.send(odd(), odd(), odd());
+        p.check(odd());
+    }
+
+    private int someKey() {
+        return pick(6) == 0 ? pick(32) : pick(6);
+    }
+
+    private void mineSome(int blocks) {
+        if (blocks > 30 && pick(3) > 0) {
+            return;
+        }
+        if (pick(5) > 0) {
+            p.cut(p.y.tape.length);
+            if (pick(4) > 0) {
+                p.address(pick(4) == 0 ? 1 : 0, someKey());
+            } else {
+                p.feed(pick(3), 1, 1, 1, 1);
+            }
+        }
+        int on = pick(4) > 0 ? blocks - 1 : Math.max(0, blocks - 1 - pick(6));
+        int[] paces = {0, 9, 10, 13, 14, 40, 41, 50, 53, 54, 60, 1000};
+        int b = p.mine(on, paces[pick(paces.length)]);
+        if (b > 0 && pick(5) > 0) {
+            p.giveAll(b);
+        }
+    }
+
+    private void giveSome(int blocks) {
+        int b = pick(blocks + 1);
+        int what = pick(3);
+        int mask = pick(2) == 0 ? 0 : 1 << pick(9);
+        int place = what == 0 ? pick(3) == 0 ? 96 + pick(10) : pick(107) : pick(what == 1 ? 12 : 600);
+        p.give(b, what, place, mask);
+    }
+
+    private void giveLast(int blocks) {
+        for (int b = Math.max(0, blocks - 8); b < blocks; b++) {
+            p.giveAll(b);
+        }
+    }
+
+    private void paySome() {
+        if (pick(4) > 0) {
+            p.cut(p.y.tape.length);
+            if (pick(3) == 0) {
+                p.address(pick(2), someKey());
+            } else {
+                p.feed(pick(3), 1, 1, 1, 1);
+            }
+        }
+        int rate = pick(3) == 0 ? pick(11) - 1 : pick(3);
+        int amount = pick(8) == 0 ? odd() : 1 + pick(pick(3) == 0 ? 4000 : 1500);
+        int d = p.pay(amount, rate);
+        if (d >= 0 && pick(2) == 0) {
+            p.sign(d);
+            p.send(d, 0, 0);
+        }
+    }
+
+    private int someDraft() {
+        int n = p.y.drafts.size();
+        return pick(10) == 0 ? pick(20) - 2 : Math.max(0, n - 1 - pick(4));
+    }
+
+    private void sendSome() {
+        int d = someDraft();
+        int mask = pick(3) > 0 ? 0 : pick(3) == 0 ? pick(258) - 1 : 1 << pick(8);
+        p.send(d, pick(3) == 0 ? pick(620) - 2 : pick(3) * 33, mask);
+    }
+}

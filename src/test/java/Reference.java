@@ -114,8 +114,26 @@ final class Reference {
         return sum;
     }
 
+    static final List<BigInteger[]> DOUBLED = new ArrayList<>();
+
+    static BigInteger[] timesBase(BigInteger k) {
+        if (DOUBLED.isEmpty()) {
+            DOUBLED.add(G);
+            for (int i = 1; i < 256; i++) {
+                DOUBLED.add(add(DOUBLED.get(i - 1), DOUBLED.get(i - 1)));
+            }
+        }
+        BigInteger[] sum = null;
+        for (int i = 0; i < 256; i++) {
+            if (k.testBit(i)) {
+                sum = add(sum, DOUBLED.get(i));
+            }
+        }
+        return sum;
+    }
+
     static byte[] publicKey(BigInteger secret) {
-        BigInteger[] point = times(secret, G);
+        BigInteger[] point = timesBase(secret);
         return join(point[1].testBit(0) ? 3 : 2, number(point[0]));
     }
 
@@ -159,11 +177,11 @@ final class Reference {
         }
         BigInteger z = big(hashOf(join(id, i)));
         BigInteger w = s.modInverse(N);
-        BigInteger[] sum = add(times(z.multiply(w).mod(N), G), times(r.multiply(w).mod(N), point));
+        BigInteger[] sum = add(timesBase(z.multiply(w).mod(N)), times(r.multiply(w).mod(N), point));
         return sum != null && sum[0].mod(N).equals(r);
     }
 
-    static byte[] witness(BigInteger d, byte[] id, int i) {
+    static byte[] witness(BigInteger d, byte[] publicKey, byte[] id, int i) {
         byte[] hash = hashOf(join(id, i));
         BigInteger z = big(hash);
         for (int c = 0;; c++) {
@@ -171,7 +189,7 @@ final class Reference {
             if (k.signum() == 0) {
                 continue;
             }
-            BigInteger r = times(k, G)[0].mod(N);
+            BigInteger r = timesBase(k)[0].mod(N);
             BigInteger s = z.add(r.multiply(d)).multiply(k.modInverse(N)).mod(N);
             if (r.signum() == 0 || s.signum() == 0) {
                 continue;
@@ -179,7 +197,7 @@ final class Reference {
             if (s.compareTo(N.shiftRight(1)) > 0) {
                 s = N.subtract(s);
             }
-            return join(publicKey(d), number(r), number(s));
+            return join(publicKey, number(r), number(s));
         }
     }
 
@@ -449,6 +467,7 @@ final class Reference {
     final List<Pay> queue = new ArrayList<>();
     final List<Header> known = new ArrayList<>();
     final List<Plan> drafts = new ArrayList<>();
+    Scan scanned;
 
     Reference() {
         build(null, 0, ones());
@@ -471,6 +490,7 @@ final class Reference {
     }
 
     int lengthen(byte[] more) {
+        scanned = null;
         if (tape.length + more.length > 200) {
             return FULL;
         }
@@ -479,6 +499,7 @@ final class Reference {
     }
 
     int cut(int n) {
+        scanned = null;
         if (n < 0 || n > tape.length) {
             return BAD;
         }
@@ -495,6 +516,7 @@ final class Reference {
     }
 
     int seed() {
+        scanned = null;
         if (tape.length < 16 || tape.length > 64) {
             return BAD;
         }
@@ -508,6 +530,7 @@ final class Reference {
     }
 
     int gap(int n) {
+        scanned = null;
         if (n < 1 || n > 8) {
             return BAD;
         }
@@ -531,6 +554,7 @@ final class Reference {
     // ---- makers
 
     int mine(int b, int seconds) {
+        scanned = null;
         if (b < 0 || b >= made.size() || seconds < 0 || seconds > 1000) {
             return BAD;
         }
@@ -671,6 +695,7 @@ final class Reference {
     }
 
     int forget() {
+        scanned = null;
         int n = queue.size();
         queue.clear();
         return n;
@@ -688,6 +713,7 @@ final class Reference {
     }
 
     int give(int b, int what, int place, int mask) {
+        scanned = null;
         if (b < 0 || b >= made.size() || what < 0 || what > 2 || mask < 0 || mask > 255) {
             return BAD;
         }
@@ -853,6 +879,14 @@ final class Reference {
         }
     }
 
+    /** The scan is gone through anew behind every call that may change anything at all. */
+    Scan scan() {
+        if (scanned == null) {
+            scanned = new Scan().go();
+        }
+        return scanned;
+    }
+
     Header best() {
         Header best = known.get(0);
         for (Header h : known) {
@@ -870,12 +904,12 @@ final class Reference {
         if (what < 3) {
             return what == 0 ? best().known : what == 1 ? best().height : known.size();
         }
-        Scan scan = new Scan().go();
+        Scan scan = scan();
         return what == 3 ? scan.stop : what == 4 ? scan.missing : scan.header;
     }
 
     int last(int branch) {
-        return own == null || branch < 0 || branch > 1 ? BAD : new Scan().go().last[branch];
+        return own == null || branch < 0 || branch > 1 ? BAD : scan().last[branch];
     }
 
     boolean locked(Coin coin) {
@@ -893,7 +927,7 @@ final class Reference {
         if (own == null) {
             return BAD;
         }
-        List<Coin> coins = new Scan().go().coins;
+        List<Coin> coins = scan().coins;
         if (i == -1 && what == 0) {
             return coins.size();
         }
@@ -918,7 +952,7 @@ final class Reference {
             return BAD;
         }
         long sum = 0;
-        for (Coin one : new Scan().go().coins) {
+        for (Coin one : scan().coins) {
             sum += what == 0 || !locked(one) ? one.value() : 0;
         }
         return (int) sum;
@@ -991,13 +1025,14 @@ final class Reference {
     }
 
     int pay(int amount, int rate) {
+        scanned = null;
         if (own == null || amount < 1 || amount > 1000000 || rate < 0 || rate > 9 || tape.length < 20) {
             return BAD;
         }
         if (drafts.size() == 16) {
             return FULL;
         }
-        Scan scan = new Scan().go();
+        Scan scan = scan();
         List<Coin> coins = new ArrayList<>(scan.coins);
         coins.removeIf(c -> locked(c) || c.value() <= 130L * rate);
         coins.sort((a, b) -> Long.compare(b.value(), a.value()));
@@ -1053,6 +1088,7 @@ final class Reference {
     }
 
     int sign(int d) {
+        scanned = null;
         if (!isDraft(d)) {
             return BAD;
         }
@@ -1061,7 +1097,8 @@ final class Reference {
             return NONE;
         }
         for (int i = 0; i < plan.coins.size(); i++) {
-            plan.pay.witnesses.add(witness(plan.coins.get(i).key.secret, plan.pay.id, i));
+            Own key = plan.coins.get(i).key;
+            plan.pay.witnesses.add(witness(key.secret, key.publicKey, plan.pay.id, i));
         }
         plan.state = 2;
         return plan.coins.size();
@@ -1075,6 +1112,7 @@ final class Reference {
     }
 
     int send(int d, int place, int mask) {
+        scanned = null;
         if (!isDraft(d) || mask < 0 || mask > 255) {
             return BAD;
         }
@@ -1108,6 +1146,7 @@ final class Reference {
     }
 
     int drop(int d) {
+        scanned = null;
         if (!isDraft(d)) {
             return BAD;
         }

@@ -537,8 +537,14 @@ public final class PurseHouse {
         private final int[] state = new int[HASH_WORDS];
         private final int[] words = new int[PIECE];
         private final byte[] piece = new byte[PIECE];
-        private final byte[] outerPad = new byte[PIECE];
         private final byte[] inner = new byte[HASH_BYTES];
+        private final byte[] macKey = new byte[HASH_BYTES];
+        private final int[] innerState = new int[HASH_WORDS];
+        private final int[] outerState = new int[HASH_WORDS];
+        private boolean hasKey;
+        private final int[] keptState = new int[HASH_WORDS];
+        private final byte[] keptPiece = new byte[PIECE];
+        private int keptLength;
         private int filled;
         private int length;
 
@@ -600,26 +606,58 @@ public final class PurseHouse {
             end(to, at);
         }
 
+        /** Remembers what was put so far, so that several ends can be tried. */
+        void keep() {
+            System.arraycopy(state, 0, keptState, 0, HASH_WORDS);
+            System.arraycopy(piece, 0, keptPiece, 0, PIECE);
+            keptLength = length;
+        }
+
+        void goBack() {
+            System.arraycopy(keptState, 0, state, 0, HASH_WORDS);
+            System.arraycopy(keptPiece, 0, piece, 0, PIECE);
+            length = keptLength;
+            filled = length % PIECE;
+        }
+
         void hashOf(byte[] from, int at, int n, byte[] to) {
             begin();
             put(from, at, n);
             endTwice(to, 0);
         }
 
+        /** Many MACs have one key, one after the other: what the key alone does is done once. */
         void beginMac(byte[] key, int at) {
-            begin();
-            for (int i = 0; i < PIECE; i++) {
-                boolean inKey = i < HASH_BYTES && at >= 0 && at < key.length - i;
-                int one = inKey ? key[at + i] : 0;
-                outerPad[i] = (byte) (one ^ 0x5c);
-                putByte(one ^ 0x36);
+            if (!hasKey || !sameBytes(macKey, 0, key, at, HASH_BYTES)) {
+                for (int i = 0; i < HASH_BYTES; i++) {
+                    macKey[i] = at < 0 || at >= key.length - i ? 0 : key[at + i];
+                }
+                padKey(0x36, innerState);
+                padKey(0x5c, outerState);
+                hasKey = true;
             }
+            goOn(innerState);
+        }
+
+        private void padKey(int pad, int[] to) {
+            for (int i = 0; i < PIECE; i++) {
+                piece[i] = (byte) (i < HASH_BYTES ? macKey[i] ^ pad : pad);
+            }
+            System.arraycopy(START, 0, state, 0, HASH_WORDS);
+            compress();
+            System.arraycopy(state, 0, to, 0, HASH_WORDS);
+        }
+
+        /** Goes on behind a first piece. */
+        private void goOn(int[] from) {
+            System.arraycopy(from, 0, state, 0, HASH_WORDS);
+            filled = 0;
+            length = PIECE;
         }
 
         void endMac(byte[] to, int at) {
             end(inner, 0);
-            begin();
-            put(outerPad, 0, PIECE);
+            goOn(outerState);
             put(inner, 0, HASH_BYTES);
             end(to, at);
         }
@@ -650,15 +688,16 @@ public final class PurseHouse {
 
         private void compress() {
             filled = 0;
+            byte[] p = piece;
+            int[] w = words;
             for (int i = 0; i < 16; i++) {
                 int at = 4 * i;
-                words[i] = piece[at] << 24 | (piece[at + 1] & 255) << 16 | (piece[at + 2] & 255) << 8
-                        | piece[at + 3] & 255;
+                w[i] = p[at] << 24 | (p[at + 1] & 255) << 16 | (p[at + 2] & 255) << 8 | p[at + 3] & 255;
             }
             for (int i = 16; i < PIECE; i++) {
-                int x = words[i - 15];
-                int y = words[i - 2];
-                words[i] = words[i - 16] + words[i - 7]
+                int x = w[i - 15];
+                int y = w[i - 2];
+                w[i] = w[i - 16] + w[i - 7]
                         + ((x >>> 7 | x << 25) ^ (x >>> 18 | x << 14) ^ x >>> 3)
                         + ((y >>> 17 | y << 15) ^ (y >>> 19 | y << 13) ^ y >>> 10);
             }
@@ -672,9 +711,9 @@ public final class PurseHouse {
             int h = state[7];
             for (int i = 0; i < PIECE; i++) {
                 int t = h + ((e >>> 6 | e << 26) ^ (e >>> 11 | e << 21) ^ (e >>> 25 | e << 7))
-                        + (e & f ^ ~e & g) + ROUND[i] + words[i];
+                        + (g ^ e & (f ^ g)) + ROUND[i] + w[i];
                 int u = ((a >>> 2 | a << 30) ^ (a >>> 13 | a << 19) ^ (a >>> 22 | a << 10))
-                        + (a & b ^ a & c ^ b & c);
+                        + (a & b | c & (a | b));
                 h = g;
                 g = f;
                 f = e;
@@ -706,7 +745,7 @@ public final class PurseHouse {
         private static final int TOP = 8;
         private static final int OVERHANG = 24;
         private static final int WIDE_TOP = 17;
-        private static final int ROUNDS = 4;
+        private static final int ROUNDS = 3;
 
         static final long[] PRIME = {
             536869935L, 536870903L, 536870911L, 536870911L, 536870911L, 536870911L, 536870911L, 536870911L, 16777215L
@@ -737,36 +776,81 @@ public final class PurseHouse {
         void multiply(long[] to, long[] a, long[] b) {
             long a0 = a[0], a1 = a[1], a2 = a[2], a3 = a[3], a4 = a[4], a5 = a[5], a6 = a[6], a7 = a[7], a8 = a[8];
             long b0 = b[0], b1 = b[1], b2 = b[2], b3 = b[3], b4 = b[4], b5 = b[5], b6 = b[6], b7 = b[7], b8 = b[8];
-            wide[0] = a0 * b0;
-            wide[1] = a0 * b1 + a1 * b0;
-            wide[2] = a0 * b2 + a1 * b1 + a2 * b0;
-            wide[3] = a0 * b3 + a1 * b2 + a2 * b1 + a3 * b0;
-            wide[4] = a0 * b4 + a1 * b3 + a2 * b2 + a3 * b1 + a4 * b0;
-            wide[5] = a0 * b5 + a1 * b4 + a2 * b3 + a3 * b2 + a4 * b1 + a5 * b0;
-            wide[6] = a0 * b6 + a1 * b5 + a2 * b4 + a3 * b3 + a4 * b2 + a5 * b1 + a6 * b0;
-            wide[7] = a0 * b7 + a1 * b6 + a2 * b5 + a3 * b4 + a4 * b3 + a5 * b2 + a6 * b1 + a7 * b0;
-            wide[8] = a0 * b8 + a1 * b7 + a2 * b6 + a3 * b5 + a4 * b4 + a5 * b3 + a6 * b2 + a7 * b1 + a8 * b0;
-            wide[9] = a1 * b8 + a2 * b7 + a3 * b6 + a4 * b5 + a5 * b4 + a6 * b3 + a7 * b2 + a8 * b1;
-            wide[10] = a2 * b8 + a3 * b7 + a4 * b6 + a5 * b5 + a6 * b4 + a7 * b3 + a8 * b2;
-            wide[11] = a3 * b8 + a4 * b7 + a5 * b6 + a6 * b5 + a7 * b4 + a8 * b3;
-            wide[12] = a4 * b8 + a5 * b7 + a6 * b6 + a7 * b5 + a8 * b4;
-            wide[13] = a5 * b8 + a6 * b7 + a7 * b6 + a8 * b5;
-            wide[14] = a6 * b8 + a7 * b7 + a8 * b6;
-            wide[15] = a7 * b8 + a8 * b7;
-            wide[16] = a8 * b8;
-            wide[17] = 0;
+            long[] w = wide;
+            long t = a0 * b0;
+            w[0] = t & MASK;
+            t = (t >> BITS) + a0 * b1 + a1 * b0;
+            w[1] = t & MASK;
+            t = (t >> BITS) + a0 * b2 + a1 * b1 + a2 * b0;
+            w[2] = t & MASK;
+            t = (t >> BITS) + a0 * b3 + a1 * b2 + a2 * b1 + a3 * b0;
+            w[3] = t & MASK;
+            t = (t >> BITS) + a0 * b4 + a1 * b3 + a2 * b2 + a3 * b1 + a4 * b0;
+            w[4] = t & MASK;
+            t = (t >> BITS) + a0 * b5 + a1 * b4 + a2 * b3 + a3 * b2 + a4 * b1 + a5 * b0;
+            w[5] = t & MASK;
+            t = (t >> BITS) + a0 * b6 + a1 * b5 + a2 * b4 + a3 * b3 + a4 * b2 + a5 * b1 + a6 * b0;
+            w[6] = t & MASK;
+            t = (t >> BITS) + a0 * b7 + a1 * b6 + a2 * b5 + a3 * b4 + a4 * b3 + a5 * b2 + a6 * b1 + a7 * b0;
+            w[7] = t & MASK;
+            t = (t >> BITS) + a0 * b8 + a1 * b7 + a2 * b6 + a3 * b5 + a4 * b4 + a5 * b3 + a6 * b2 + a7 * b1 + a8 * b0;
+            w[8] = t & MASK;
+            t = (t >> BITS) + a1 * b8 + a2 * b7 + a3 * b6 + a4 * b5 + a5 * b4 + a6 * b3 + a7 * b2 + a8 * b1;
+            w[9] = t & MASK;
+            t = (t >> BITS) + a2 * b8 + a3 * b7 + a4 * b6 + a5 * b5 + a6 * b4 + a7 * b3 + a8 * b2;
+            w[10] = t & MASK;
+            t = (t >> BITS) + a3 * b8 + a4 * b7 + a5 * b6 + a6 * b5 + a7 * b4 + a8 * b3;
+            w[11] = t & MASK;
+            t = (t >> BITS) + a4 * b8 + a5 * b7 + a6 * b6 + a7 * b5 + a8 * b4;
+            w[12] = t & MASK;
+            t = (t >> BITS) + a5 * b8 + a6 * b7 + a7 * b6 + a8 * b5;
+            w[13] = t & MASK;
+            t = (t >> BITS) + a6 * b8 + a7 * b7 + a8 * b6;
+            w[14] = t & MASK;
+            t = (t >> BITS) + a7 * b8 + a8 * b7;
+            w[15] = t & MASK;
+            t = (t >> BITS) + a8 * b8;
+            w[16] = t & MASK;
+            w[17] = t >> BITS;
+            if (over.length == 2) {
+                foldShort(to);
+            } else {
+                foldLong(to);
+            }
+        }
+
+        /** What stands above 2^261 comes down, for a prime that leaves little of that. */
+        private void foldShort(long[] to) {
+            long[] w = wide;
+            long low = over[0];
+            long high = over[1];
+            long below = 0;
+            long carry = 0;
+            for (int i = 0; i < LIMBS; i++) {
+                long h = w[i + LIMBS];
+                carry += w[i] + h * low + below * high;
+                to[i] = carry & MASK;
+                carry >>= BITS;
+                below = h;
+            }
+            long h = carry + below * high;
+            carry = to[0] + h * low;
+            to[0] = carry & MASK;
+            carry = (carry >> BITS) + to[1] + h * high;
+            to[1] = carry & MASK;
+            carry >>= BITS;
+            for (int i = 2; i < TOP && carry != 0; i++) {
+                carry += to[i];
+                to[i] = carry & MASK;
+                carry >>= BITS;
+            }
+            to[TOP] += carry;
+        }
+
+        /** The same for a prime that leaves more: it takes some rounds. */
+        private void foldLong(long[] to) {
             int top = WIDE_TOP;
-            for (int round = 0; round < ROUNDS; round++) {
-                long carry = 0;
-                for (int i = 0; i < top; i++) {
-                    carry += wide[i];
-                    wide[i] = carry & MASK;
-                    carry >>= BITS;
-                }
-                wide[top] += carry;
-                if (top == TOP) {
-                    break;
-                }
+            for (int round = 0; round < ROUNDS && top > TOP; round++) {
                 for (int k = LIMBS; k <= top; k++) {
                     long h = wide[k];
                     wide[k] = 0;
@@ -776,8 +860,17 @@ public final class PurseHouse {
                 }
                 int next = top - LIMBS + over.length;
                 top = next > TOP ? next : TOP;
+                long carry = 0;
+                for (int i = 0; i < top; i++) {
+                    carry += wide[i];
+                    wide[i] = carry & MASK;
+                    carry >>= BITS;
+                }
+                wide[top] += carry;
             }
-            System.arraycopy(wide, 0, to, 0, LIMBS);
+            for (int i = 0; i < LIMBS; i++) {
+                to[i] = wide[i];
+            }
         }
 
         /** Leaves a and a few times b in to. */
@@ -792,11 +885,8 @@ public final class PurseHouse {
             long h = carry >> BITS;
             to[TOP] = carry & MASK;
             carry = 0;
-            for (int i = 0; i < TOP; i++) {
-                carry += to[i];
-                if (i < over.length) {
-                    carry += h * over[i];
-                }
+            for (int i = 0; i < TOP && (i < over.length || carry != 0); i++) {
+                carry += i < over.length ? to[i] + h * over[i] : to[i];
                 to[i] = carry & MASK;
                 carry >>= BITS;
             }
@@ -837,9 +927,12 @@ public final class PurseHouse {
                 long limb = i < TOP ? carry & MASK : carry;
                 some |= limb;
                 other |= limb ^ whole[i];
+                if (some != 0 && other != 0) {
+                    return false;
+                }
                 carry >>= BITS;
             }
-            return some == 0 || other == 0;
+            return true;
         }
 
         boolean isOdd(long[] a) {
@@ -1596,9 +1689,14 @@ public final class PurseHouse {
             return wordAt(header, NONCE);
         }
 
-        /** The ID as bytes and its work follow from a header that is whole. */
-        void finish(Sha sha) {
-            sha.hashOf(header, 0, HEADER_BYTES, id);
+        /** Takes over a header, whose ID is known, as a whole. */
+        void takeHeader(byte[] from, byte[] itsId) {
+            System.arraycopy(from, 0, header, 0, HEADER_BYTES);
+            System.arraycopy(itsId, 0, id, 0, HASH_BYTES);
+            sumWork();
+        }
+
+        void sumWork() {
             work = (1 << (bits() & 31)) + (before == null ? 0 : before.work);
         }
 
@@ -1912,14 +2010,21 @@ public final class PurseHouse {
             }
         }
 
+        /** Only the last bytes of the header change from try to try: what stands before them is hashed once. */
         private void prove(Block one) {
-            for (int nonce = 0; nonce < NONCE_LIMIT; nonce++) {
-                storeWord(nonce, one.header, Block.NONCE);
-                one.finish(sha);
-                if (Block.isProved(one.id, one.bits())) {
-                    return;
-                }
+            sha.begin();
+            sha.put(one.header, 0, Block.NONCE);
+            sha.keep();
+            int nonce = 0;
+            boolean proved = false;
+            for (; nonce < NONCE_LIMIT && !proved; nonce++) {
+                sha.goBack();
+                sha.putWord(nonce);
+                sha.endTwice(one.id, 0);
+                proved = Block.isProved(one.id, one.bits());
             }
+            storeWord(nonce - 1, one.header, Block.NONCE);
+            one.sumWork();
         }
     }
 
@@ -1988,8 +2093,7 @@ public final class PurseHouse {
             Block taken = one;
             if (!sameBytes(digest, 0, one.id, 0, HASH_BYTES)) {
                 taken = new Block(known[before], NONE);
-                System.arraycopy(given, 0, taken.header, 0, Block.HEADER_BYTES);
-                taken.finish(sha);
+                taken.takeHeader(given, digest);
             }
             known[knownCount] = taken;
             beforeOf[knownCount] = before;

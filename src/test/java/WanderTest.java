@@ -2,16 +2,20 @@ import java.util.Random;
 
 /** Long runs of likely and unlikely calls, all promises at once, against the reference. */
 public final class WanderTest {
+    private static final int[][] PACES = {{0, 9, 10, 13, 14, 40, 41, 50, 53, 54, 60, 1000}, {0, 1, 9}, {20, 40}};
+
     private final Random random;
     private final Pair p;
+    private final int[] paces;
 
     private WanderTest(long seed, Due due) {
         random = new Random(seed);
         p = new Pair(due);
+        paces = PACES[(int) (seed % PACES.length)];
     }
 
     public static void main(String[] args) {
-        int runs = args.length > 0 ? Integer.parseInt(args[0]) : 24;
+        int runs = args.length > 0 ? Integer.parseInt(args[0]) : 21;
         int first = args.length > 1 ? Integer.parseInt(args[1]) : 1;
         Due due = new Due("wandering");
         for (int run = first; run < first + runs; run++) {
@@ -44,7 +48,7 @@ public final class WanderTest {
 
     private void step() {
         int blocks = p.y.made.size();
-        switch (pick(20)) {
+        switch (pick(23)) {
             case 0 -> tape();
             case 1, 2, 3, 4 -> mineSome(blocks);
             case 5, 6 -> giveSome(blocks);
@@ -61,6 +65,9 @@ public final class WanderTest {
                 }
             }
             case 18 -> rare();
+            case 19 -> payMany(blocks);
+            case 20 -> payMany(blocks);
+            case 21 -> spoilHeaders(blocks);
             default -> p.look();
         }
     }
@@ -77,7 +84,11 @@ public final class WanderTest {
 
     private void rare() {
         switch (pick(8)) {
-            case 0 -> p.plant(pick(3));
+            case 0 -> {
+                if (pick(4) == 0) {
+                    p.plant(pick(3));
+                }
+            }
             case 1 -> p.seed();
             case 2 -> p.forget();
             default -> wild();
@@ -130,10 +141,41 @@ public final class WanderTest {
             }
         }
         int on = pick(4) > 0 ? blocks - 1 : Math.max(0, blocks - 1 - pick(6));
-        int[] paces = {0, 9, 10, 13, 14, 40, 41, 50, 53, 54, 60, 1000};
         int b = p.mine(on, paces[pick(paces.length)]);
         if (b > 0 && pick(5) > 0) {
             p.giveAll(b);
+        } else if (b > 0) {
+            p.give(b, 0, 0, 0);
+            p.give(b, 1 + pick(2), 0, 0);
+        }
+    }
+
+    /** A few drafts at once, then a block, so that several payments meet in it. */
+    private void payMany(int blocks) {
+        for (int i = 0; i < 4; i++) {
+            p.cut(p.y.tape.length);
+            if (pick(2) == 0) {
+                p.address(pick(2), someKey());
+            } else {
+                p.feed(pick(3), 1, 1, 1, 1);
+            }
+            int d = p.pay(1 + pick(1200), pick(2));
+            if (d >= 0) {
+                p.sign(d);
+                p.send(d, 0, 0);
+            }
+        }
+        int b = p.mine(blocks - 1, paces[pick(paces.length)]);
+        if (b > 0) {
+            p.giveAll(b);
+        }
+    }
+
+    /** A header with other NONCES: some are proved. */
+    private void spoilHeaders(int blocks) {
+        int b = blocks - 1 - pick(Math.min(3, blocks));
+        for (int i = 0; i < 6; i++) {
+            p.give(b, 0, 101 + pick(4), 1 + pick(255));
         }
     }
 

@@ -11,6 +11,7 @@ public final class DraftsTest {
         sixtyMore(due);
         greatestOnes(due);
         restEdges(due);
+        noRoomForRest(due);
         smallCoins(due);
         coinOrder(due);
         rowsInOrder(due);
@@ -155,6 +156,19 @@ public final class DraftsTest {
             due.is("outputs", p.draft(d, 1), above > 60 ? 2 : 1);
             due.is("FEE", p.draft(d, 2), above > 60 ? 540 : 540 + above);
             due.is("rest", p.draft(d, 3), above > 60 ? above : 0);
+            p.lookAtDrafts();
+        }
+    }
+
+    /** A row of (b) may have less than the FEE of a second output: then there is none. */
+    private static void noRoomForRest(Due due) {
+        for (int above = 59; above < 120; above += 15) {
+            Pair p = rich(due, 2);
+            int d = p.payOut(1000 - 5 * 156 - above, 5);
+            due.is("inputs", p.draft(d, 0), 1);
+            due.is("outputs", p.draft(d, 1), 1);
+            due.is("FEE", p.draft(d, 2), 780 + above);
+            due.is("looks", p.draft(d, 5), above > 60 ? 4 : 1);
             p.lookAtDrafts();
         }
     }
@@ -378,6 +392,13 @@ public final class DraftsTest {
         due.is("waiting", p.waiting(), 4);
         p.mine(1, 30);
         due.is("none is good", p.waiting(), 4);
+        p.drop(0);
+        p.payOut(1, 0);
+        p.sign(1);
+        due.is("a value of 1", p.send(1, 0, 0), 1);
+        p.mine(1, 31);
+        due.is("it is good", p.payment(3, 1, 10), 1);
+        due.is("the rest", p.payment(3, 1, 11), 999);
     }
 
     /** Promise 26. */

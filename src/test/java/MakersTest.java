@@ -10,6 +10,7 @@ public final class MakersTest {
         mintsAddress(due);
         fortyBlocks(due);
         difficultyEdges(due);
+        difficultySpan(due);
         difficultyLimits(due);
         goodOnes(due);
         notGood(due);
@@ -93,6 +94,26 @@ public final class MakersTest {
         due.is("40 seconds", bitsBehind(due, 40), 2);
         due.is("160 seconds", bitsBehind(due, 160), 2);
         due.is("161 seconds", bitsBehind(due, 161), 1);
+    }
+
+    /** Only the three steps behind the block four before count, not those around them. */
+    private static void difficultySpan(Due due) {
+        int[][] steps = {{1000, 20, 10, 9}, {1000, 20, 10, 10}, {0, 60, 60, 40}, {0, 60, 60, 41}};
+        int[] want = {3, 2, 2, 1};
+        for (int i = 0; i < steps.length; i++) {
+            Pair p = new Pair(due);
+            int b = 0;
+            for (int j = 0; j < 3; j++) {
+                b = p.mine(b, 20);
+            }
+            for (int step : steps[i]) {
+                b = p.mine(b, step);
+            }
+            due.is("D before", p.block(b, 2), 2);
+            b = p.mine(b, i % 2 == 0 ? 0 : 1000);
+            due.is("HEIGHT", p.block(b, 1), 8);
+            due.is("D of height 8", p.block(b, 2), want[i]);
+        }
     }
 
     private static void difficultyLimits(Due due) {

@@ -193,6 +193,9 @@ public final class PurseTest {
         due.is("what 6", p.chain(6), BAD);
         due.is("no seed", p.chain(4), BAD);
         due.is("no seed", p.chain(5), BAD);
+        p.plant(1);
+        due.is("what -1", p.chain(-1), BAD);
+        due.is("what 6", p.chain(6), BAD);
         p.mine(0, 10);
         p.mine(0, 11);
         p.mine(2, 12);

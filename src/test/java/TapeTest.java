@@ -111,6 +111,10 @@ public final class TapeTest {
         for (int i = 0; i < 10; i++) {
             p.feed(0x01234567 * (i + 1), 0x89abcdef * i, i, -i, i << 16);
         }
+        due.is("what 2", p.hash(2, 0), BAD);
+        due.is("what -1", p.hash(-1, 0), BAD);
+        due.is("word 8", p.hash(1, 8), BAD);
+        due.is("word -1", p.hash(1, -1), BAD);
         for (int n = 200; n >= 0; n--) {
             for (int i = 0; i < 8; i++) {
                 p.hash(0, i);

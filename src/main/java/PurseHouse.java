@@ -236,12 +236,13 @@ public final class PurseHouse {
             parcel[place] = (byte) (parcel[place] ^ mask);
         }
         if (what == 0) {
-            return purse.takeHeader(one, parcel);
+            return purse.takeHeader(parcel);
         }
+        Block first = makers.firstWith(one.id);
         if (what == 1) {
-            return purse.takeFilter(one, parcel, length);
+            return purse.takeFilter(first, parcel, length);
         }
-        return purse.takeBlock(one, parcel, length);
+        return purse.takeBlock(first, parcel, length);
     }
 
     public int header(int h, int what) {
@@ -250,14 +251,16 @@ public final class PurseHouse {
         }
         Block one = purse.known[h];
         switch (what) {
-            case 0: return purse.beforeOf[h];
+            case 0: return one.before == null ? NONE : one.before.number;
             case 1: return one.height;
             case 2: return one.work;
-            case 3: return purse.hasFilter[h] ? 1 : 0;
-            case 4: return purse.hasBlock[h] ? 1 : 0;
-            case 5: return one.number;
+            case 3: return purse.filterFrom[h] == null ? 0 : 1;
+            case 4: return purse.blockFrom[h] == null ? 0 : 1;
+            case 5: break;
             default: return wordAt(one.id, 4 * (what - 6));
         }
+        Block made = makers.firstWith(one.id);
+        return made == null ? NONE : made.number;
     }
 
     public int chain(int what) {
@@ -520,6 +523,7 @@ public final class PurseHouse {
     private static final class Sha {
         private static final int PIECE = 64;
         private static final int LENGTH_AT = 56;
+        private static final int FOLDS = 31;
         private static final int[] START = {
             0x6a09e667, 0xbb67ae85, 0x3c6ef372, 0xa54ff53a, 0x510e527f, 0x9b05688c, 0x1f83d9ab, 0x5be0cd19
         };
@@ -673,7 +677,7 @@ public final class PurseHouse {
         /** Leaves the root of n IDs, which stand in a row, in the place of the first. */
         void foldRoot(byte[] ids, int n) {
             int left = n;
-            for (int round = 0; round < INPUT_LIMIT && left > 1; round++) {
+            for (int round = 0; round < FOLDS && left > 1; round++) {
                 int pairs = (left + 1) / 2;
                 for (int i = 0; i < pairs; i++) {
                     int other = Math.min(2 * i + 1, left - 1);
@@ -1643,7 +1647,7 @@ public final class PurseHouse {
         }
     }
 
-    /** A block, or a header alone that no block has (its number is NONE then). */
+    /** A block of the makers, or a header alone among those that the purse knows: its number is the purse's then. */
     private static final class Block {
         static final int HEADER_BYTES = 105;
         static final int ROOT = 32;
@@ -1823,6 +1827,16 @@ public final class PurseHouse {
 
         Block blockAt(int b) {
             return b < 0 || b >= blockCount ? null : blocks[b];
+        }
+
+        /** The first block with this ID, or null. */
+        Block firstWith(byte[] id) {
+            for (int b = 0; b < blockCount; b++) {
+                if (sameBytes(blocks[b].id, 0, id, 0, HASH_BYTES)) {
+                    return blocks[b];
+                }
+            }
+            return null;
         }
 
         boolean isDone() {
@@ -2033,13 +2047,16 @@ public final class PurseHouse {
         static final int COIN_LIMIT = 400;
         private static final int KNOWN_LIMIT = 60;
         private static final int PASSES = 65;
+        /** A spoiled block may be read as more payments than a block is made of. */
+        private static final int READ_LIMIT = PARCEL_BYTES / Payment.MINT_BYTES;
 
         private final Sha sha;
         private final KeyRing keys;
         private final Block[] known = new Block[KNOWN_LIMIT];
-        private final int[] beforeOf = new int[KNOWN_LIMIT];
-        private final boolean[] hasFilter = new boolean[KNOWN_LIMIT];
-        private final boolean[] hasBlock = new boolean[KNOWN_LIMIT];
+        /** Of each header the makers' block whose filter counts for it, null while no filter was taken. */
+        private final Block[] filterFrom = new Block[KNOWN_LIMIT];
+        /** Of each header the makers' block whose payments count for it, null while no block was taken. */
+        private final Block[] blockFrom = new Block[KNOWN_LIMIT];
         private int knownCount;
         private int best;
         private boolean stale = true;
@@ -2053,14 +2070,13 @@ public final class PurseHouse {
         private int coinCount;
         /** Of each header and key what the key's address is turned into there, -1 while nobody asked. */
         private final long[] marks = new long[KNOWN_LIMIT * KeyRing.KEY_COUNT];
-        private final byte[] ids = new byte[HASH_BYTES * Block.PAYMENT_LIMIT];
+        private final byte[] ids = new byte[HASH_BYTES * READ_LIMIT];
         private final byte[] digest = new byte[HASH_BYTES];
 
         Purse(Sha sha, KeyRing keys, Block first) {
             this.sha = sha;
             this.keys = keys;
             known[0] = first;
-            beforeOf[0] = NONE;
             knownCount = 1;
         }
 
@@ -2078,7 +2094,8 @@ public final class PurseHouse {
             return -1;
         }
 
-        int takeHeader(Block one, byte[] given) {
+        /** Height, work and what comes behind go by the headers that are known, never by the makers' blocks. */
+        int takeHeader(byte[] given) {
             sha.hashOf(given, 0, Block.HEADER_BYTES, digest);
             if (findKnown(digest, 0) >= 0) {
                 return 2;
@@ -2090,13 +2107,9 @@ public final class PurseHouse {
             if (knownCount >= KNOWN_LIMIT) {
                 return FULL;
             }
-            Block taken = one;
-            if (!sameBytes(digest, 0, one.id, 0, HASH_BYTES)) {
-                taken = new Block(known[before], NONE);
-                taken.takeHeader(given, digest);
-            }
+            Block taken = new Block(known[before], knownCount);
+            taken.takeHeader(given, digest);
             known[knownCount] = taken;
-            beforeOf[knownCount] = before;
             if (taken.work > known[best].work) {
                 best = knownCount;
             }
@@ -2112,29 +2125,30 @@ public final class PurseHouse {
             return bits == before.bitsOfNext() && time >= before.time() && Block.isProved(digest, bits);
         }
 
-        int takeFilter(Block one, byte[] given, int length) {
-            int h = findKnown(one.id, 0);
+        /** Holds a filter against the known header with the ID of a block, the first that the makers have with it. */
+        int takeFilter(Block first, byte[] given, int length) {
+            int h = first == null ? -1 : findKnown(first.id, 0);
             if (h < 0) {
                 return 0;
             }
-            if (hasFilter[h]) {
+            if (filterFrom[h] != null) {
                 return 2;
             }
             sha.hashOf(given, 0, length, digest);
-            if (!sameBytes(digest, 0, one.header, Block.FILTER, HASH_BYTES)) {
+            if (!sameBytes(digest, 0, known[h].header, Block.FILTER, HASH_BYTES)) {
                 return 0;
             }
-            hasFilter[h] = true;
+            filterFrom[h] = first;
             stale = true;
             return 1;
         }
 
-        int takeBlock(Block one, byte[] given, int length) {
-            int h = findKnown(one.id, 0);
+        int takeBlock(Block first, byte[] given, int length) {
+            int h = first == null ? -1 : findKnown(first.id, 0);
             if (h < 0) {
                 return 0;
             }
-            if (hasBlock[h]) {
+            if (blockFrom[h] != null) {
                 return 2;
             }
             int n = readIds(given, length);
@@ -2142,10 +2156,10 @@ public final class PurseHouse {
                 return 0;
             }
             sha.foldRoot(ids, n);
-            if (!sameBytes(ids, 0, one.header, Block.ROOT, HASH_BYTES)) {
+            if (!sameBytes(ids, 0, known[h].header, Block.ROOT, HASH_BYTES)) {
                 return 0;
             }
-            hasBlock[h] = true;
+            blockFrom[h] = first;
             stale = true;
             return 1;
         }
@@ -2154,7 +2168,7 @@ public final class PurseHouse {
         private int readIds(byte[] given, int length) {
             int n = 0;
             int at = 0;
-            for (; n < Block.PAYMENT_LIMIT && at < length; n++) {
+            for (; n < READ_LIMIT && at < length; n++) {
                 int body = Payment.bodyBytes(given, at, length);
                 if (body < 0) {
                     return -1;
@@ -2185,22 +2199,24 @@ public final class PurseHouse {
             keys.watch();
             for (int height = 0; height <= known[best].height; height++) {
                 int h = chainAt(height);
-                if (!hasFilter[h]) {
+                Block filtered = filterFrom[h];
+                if (filtered == null) {
                     stopAt(height, h, 1);
                     return;
                 }
-                if (!meetsWatched(h)) {
+                if (!meetsWatched(h, filtered)) {
                     continue;
                 }
-                if (!hasBlock[h]) {
+                Block one = blockFrom[h];
+                if (one == null) {
                     stopAt(height, h, 2);
                     return;
                 }
-                useKeys(known[h]);
+                useKeys(one);
                 for (int pass = 0; pass < PASSES && keys.watch(); pass++) {
-                    useKeys(known[h]);
+                    useKeys(one);
                 }
-                moveCoins(known[h]);
+                moveCoins(one, height);
             }
         }
 
@@ -2210,28 +2226,28 @@ public final class PurseHouse {
             missing = what;
         }
 
-        /** The header of the chain at a height. */
+        /** The number of the chain's header at a height. */
         private int chainAt(int height) {
-            int h = best;
-            for (int i = 0; i < KNOWN_LIMIT && known[h].height > height && beforeOf[h] >= 0; i++) {
-                h = beforeOf[h];
+            Block one = known[best];
+            for (int i = 0; i < KNOWN_LIMIT && one.height > height && one.before != null; i++) {
+                one = one.before;
             }
-            return h;
+            return one.number;
         }
 
-        private boolean meetsWatched(int h) {
+        private boolean meetsWatched(int h, Block filtered) {
             for (int i = 0; i < KeyRing.KEY_COUNT; i++) {
-                if (keys.isWatched(i) && known[h].meets(markAt(h, i))) {
+                if (keys.isWatched(i) && filtered.meets(markAt(h, filtered, i))) {
                     return true;
                 }
             }
             return false;
         }
 
-        private long markAt(int h, int key) {
+        private long markAt(int h, Block filtered, int key) {
             int at = KeyRing.KEY_COUNT * h + key;
             if (marks[at] < 0) {
-                marks[at] = sha.markOf(known[h].header, keys.nodes[key], KeyRing.ADDRESS);
+                marks[at] = sha.markOf(filtered.header, keys.nodes[key], KeyRing.ADDRESS);
             }
             return marks[at];
         }
@@ -2249,7 +2265,7 @@ public final class PurseHouse {
             }
         }
 
-        private void moveCoins(Block one) {
+        private void moveCoins(Block one, int height) {
             for (int i = 0; i < one.count; i++) {
                 Payment payment = one.payments[i];
                 removeNamed(payment);
@@ -2259,7 +2275,7 @@ public final class PurseHouse {
                         coinFrom[coinCount] = payment;
                         coinOutput[coinCount] = o;
                         coinKey[coinCount] = key;
-                        coinHeight[coinCount] = one.height;
+                        coinHeight[coinCount] = height;
                         coinCount++;
                     }
                 }

@@ -198,6 +198,32 @@ final class Pair {
         }
     }
 
+    /** What holds among the class's own answers on headers, whatever the reference tells. */
+    void lookAtLaws() {
+        for (int h = 0; h < x.chain(2); h++) {
+            int before = x.header(h, 0);
+            due.yes("the one before header " + h, h == 0 ? before == PurseHouse.NONE : before >= 0 && before < h);
+            if (h > 0) {
+                due.is("height of header " + h, x.header(h, 1), x.header(before, 1) + 1);
+                due.is("own work of header " + h, Integer.bitCount(x.header(h, 2) - x.header(before, 2)), 1);
+            }
+            due.is("block of header " + h, x.header(h, 5), firstBlockOf(h));
+        }
+    }
+
+    private int firstBlockOf(int h) {
+        for (int b = 0; x.block(b, 0) != PurseHouse.BAD; b++) {
+            int same = 0;
+            for (int i = 0; i < 8; i++) {
+                same += x.block(b, 8 + i) == x.header(h, 6 + i) ? 1 : 0;
+            }
+            if (same == 8) {
+                return b;
+            }
+        }
+        return PurseHouse.NONE;
+    }
+
     void lookAtDrafts() {
         for (int d = 0; d < y.drafts.size(); d++) {
             for (int what = -1; what < 7; what++) {

@@ -70,7 +70,9 @@ final class Reference {
     }
 
     static byte[] hashOf(byte[] x) {
-        return sha(sha(x));
+        byte[] out = sha(sha(x));
+        Weak.shorten(out, 0, x.length);
+        return out;
     }
 
     static byte[] mac(byte[] k, byte[] x) {
@@ -325,13 +327,13 @@ final class Reference {
         }
     }
 
+    /** A header as a block of the makers has it, or one that the purse knows: these are two, and go by their own. */
     static final class Header {
         byte[] raw;
         byte[] id;
         Header before;
         int height;
         long work;
-        int maker = NONE;
         int known = -1;
         boolean filterTaken;
         boolean blockTaken;
@@ -471,7 +473,7 @@ final class Reference {
 
     Reference() {
         build(null, 0, ones());
-        take(made.get(0).header);
+        take(header(made.get(0).header.raw, null));
     }
 
     static byte[] ones() {
@@ -606,7 +608,6 @@ final class Reference {
             nonce++;
         }
         one.header = header(join(front, number(nonce, 4)), before == null ? null : before.header);
-        one.header.maker = number;
         made.add(one);
         return number;
     }
@@ -712,6 +713,16 @@ final class Reference {
         return null;
     }
 
+    /** The number of the first block with this ID. */
+    int firstMade(byte[] id) {
+        for (int b = 0; b < made.size(); b++) {
+            if (Arrays.equals(made.get(b).header.id, id)) {
+                return b;
+            }
+        }
+        return NONE;
+    }
+
     int give(int b, int what, int place, int mask) {
         scanned = null;
         if (b < 0 || b >= made.size() || what < 0 || what > 2 || mask < 0 || mask > 255) {
@@ -723,10 +734,10 @@ final class Reference {
             if (place < 0 || place >= given.length) {
                 return BAD;
             }
-            given[place] ^= (byte) mask;
+            Weak.spoil(given, given.length, what, place, mask);
         }
         if (what == 0) {
-            return giveHeader(one, given);
+            return giveHeader(given);
         }
         Header h = knownById(one.header.id);
         if (h == null) {
@@ -755,7 +766,7 @@ final class Reference {
         return h.blockTaken ? 1 : 0;
     }
 
-    int giveHeader(Made one, byte[] given) {
+    int giveHeader(byte[] given) {
         if (knownById(hashOf(given)) != null) {
             return 2;
         }
@@ -770,7 +781,7 @@ final class Reference {
         if (known.size() == 60) {
             return FULL;
         }
-        take(Arrays.equals(h.id, one.header.id) ? one.header : h);
+        take(h);
         return 1;
     }
 
@@ -785,7 +796,7 @@ final class Reference {
             case 2 -> (int) one.work;
             case 3 -> one.filterTaken ? 1 : 0;
             case 4 -> one.blockTaken ? 1 : 0;
-            case 5 -> one.maker;
+            case 5 -> firstMade(one.id);
             default -> word(one.id, what - 6);
         };
     }
@@ -827,8 +838,8 @@ final class Reference {
                 if (!h.filterTaken) {
                     return stopAt(h, 1);
                 }
-                Made block = made.get(h.maker);
-                if (!meets(h, block)) {
+                Made block = made.get(firstMade(h.id));
+                if (!meets(block)) {
                     continue;
                 }
                 if (!h.blockTaken) {
@@ -839,7 +850,7 @@ final class Reference {
                 while (watched().size() > now) {
                     now = watched().size();
                     coins = new ArrayList<>(before);
-                    pass(block, watched());
+                    pass(block, watched(), h.height);
                 }
             }
             return this;
@@ -852,17 +863,18 @@ final class Reference {
             return this;
         }
 
-        boolean meets(Header h, Made block) {
+        boolean meets(Made block) {
             Set<Long> numbers = numbersOf(block.filter);
             for (Own key : watched()) {
-                if (numbers.contains(filterNumber(Arrays.copyOf(h.raw, 32), key.address, block.filter[0]))) {
+                byte[] before = Arrays.copyOf(block.header.raw, 32);
+                if (numbers.contains(filterNumber(before, key.address, block.filter[0]))) {
                     return true;
                 }
             }
             return false;
         }
 
-        void pass(Made block, List<Own> watching) {
+        void pass(Made block, List<Own> watching, int height) {
             for (Pay pay : block.pays) {
                 for (In in : pay.ins) {
                     coins.removeIf(c -> c.name().equals(in.name()));
@@ -870,8 +882,9 @@ final class Reference {
                 for (int o = 0; o < pay.outs.size(); o++) {
                     for (Own key : watching) {
                         if (Arrays.equals(key.address, pay.outs.get(o).address)) {
-                            coins.add(new Coin(pay, o, key, block.header.height));
+                            coins.add(new Coin(pay, o, key, height));
                             last[key.branch] = Math.max(last[key.branch], key.k);
+                            break;
                         }
                     }
                 }

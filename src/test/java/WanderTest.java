@@ -18,11 +18,15 @@ public final class WanderTest {
         int runs = args.length > 0 ? Integer.parseInt(args[0]) : 21;
         int first = args.length > 1 ? Integer.parseInt(args[1]) : 1;
         Due due = new Due("wandering");
+        wander(runs, first, due);
+        due.end();
+    }
+
+    static void wander(int runs, int first, Due due) {
         for (int run = first; run < first + runs; run++) {
             WanderTest one = new WanderTest(run, due);
             one.wander(140 + run % 5 * 60);
         }
-        due.end();
     }
 
     private int pick(int n) {
@@ -43,11 +47,16 @@ public final class WanderTest {
         }
         p.look();
         p.lookAtMade();
+        p.lookAtLaws();
         p.lookAtDrafts();
     }
 
     private void step() {
         int blocks = p.y.made.size();
+        if (Weak.isOn() && pick(6) == 0) {
+            giveTwins(blocks);
+            return;
+        }
         switch (pick(23)) {
             case 0 -> tape();
             case 1, 2, 3, 4 -> mineSome(blocks);
@@ -176,6 +185,20 @@ public final class WanderTest {
         int b = blocks - 1 - pick(Math.min(3, blocks));
         for (int i = 0; i < 6; i++) {
             p.give(b, 0, 101 + pick(4), 1 + pick(255));
+        }
+    }
+
+    /** Headers, filters and payments of all blocks, as they are and as others: some have the ID of one of those. */
+    private void giveTwins(int blocks) {
+        for (int i = 0; i < 5; i++) {
+            int b = pick(blocks);
+            p.give(b, 0, 32 + pick(73), 1 + pick(255));
+            p.give(b, 0, 96, 0);
+            p.give(b, 1, pick(4), pick(256));
+            p.give(b, 2, pick(28), pick(2) == 0 ? 255 : pick(255));
+        }
+        if (pick(3) == 0) {
+            p.lookAtMade();
         }
     }
 

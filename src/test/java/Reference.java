@@ -79,7 +79,9 @@ final class Reference {
         try {
             Mac mac = Mac.getInstance("HmacSHA256");
             mac.init(new SecretKeySpec(k, "HmacSHA256"));
-            return mac.doFinal(x);
+            byte[] out = mac.doFinal(x);
+            Weak.bend(out, 0);
+            return out;
         } catch (Exception e) {
             throw new IllegalStateException(e);
         }
@@ -156,6 +158,12 @@ final class Reference {
         return new BigInteger[] {x, y.testBit(0) == (publicKey[0] == 3) ? y : P.subtract(y)};
     }
 
+    static byte[] message(byte[] id, int i) {
+        byte[] out = hashOf(join(id, i));
+        Weak.bendMessage(out);
+        return out;
+    }
+
     static final Map<String, Boolean> LOOKED_AT = new HashMap<>();
 
     static String text(byte[] row) {
@@ -177,23 +185,25 @@ final class Reference {
         if (point == null || r.signum() == 0 || r.compareTo(N) >= 0 || s.signum() == 0 || s.compareTo(N.shiftRight(1)) > 0) {
             return false;
         }
-        BigInteger z = big(hashOf(join(id, i)));
+        BigInteger z = big(message(id, i));
         BigInteger w = s.modInverse(N);
         BigInteger[] sum = add(timesBase(z.multiply(w).mod(N)), times(r.multiply(w).mod(N), point));
         return sum != null && sum[0].mod(N).equals(r);
     }
 
     static byte[] witness(BigInteger d, byte[] publicKey, byte[] id, int i) {
-        byte[] hash = hashOf(join(id, i));
+        byte[] hash = message(id, i);
         BigInteger z = big(hash);
         for (int c = 0;; c++) {
             BigInteger k = big(mac(number(d), join(hash, c))).mod(N);
             if (k.signum() == 0) {
+                zerosOfK++;
                 continue;
             }
             BigInteger r = timesBase(k)[0].mod(N);
             BigInteger s = z.add(r.multiply(d)).multiply(k.modInverse(N)).mod(N);
             if (r.signum() == 0 || s.signum() == 0) {
+                zerosOfS++;
                 continue;
             }
             if (s.compareTo(N.shiftRight(1)) > 0) {
@@ -205,11 +215,22 @@ final class Reference {
 
     // ---- keys
 
+    /** How often what no true HASH comes to came: a test that bends them (Weak) looks whether it did. */
+    static int zerosOfK;
+    static int zerosOfS;
+    static int zerosOfMaster;
+    static int zerosOfSecret;
+
+    static BigInteger oneForZero(BigInteger secret) {
+        zerosOfSecret += secret.signum() == 0 ? 1 : 0;
+        return secret.signum() == 0 ? BigInteger.ONE : secret;
+    }
+
     record Key(BigInteger secret, byte[] code) {
         Key child(long i) {
             byte[] x = i >= 1L << 31 ? join(0, number(secret), number(i, 4)) : join(publicKey(secret), number(i, 4));
             BigInteger sum = secret.add(big(mac(code, join(x, 0)))).mod(N);
-            return new Key(sum.signum() == 0 ? BigInteger.ONE : sum, mac(code, join(x, 1)));
+            return new Key(oneForZero(sum), mac(code, join(x, 1)));
         }
     }
 
@@ -217,24 +238,39 @@ final class Reference {
     record Own(int branch, int k, BigInteger secret, byte[] publicKey, byte[] address) {
     }
 
-    static Own[] ownKeys(byte[] seed) {
-        byte[] zeros = new byte[32];
-        BigInteger secret = big(mac(zeros, join(seed, 0))).mod(N);
-        Key master = new Key(secret.signum() == 0 ? BigInteger.ONE : secret, mac(zeros, join(seed, 1)));
-        Key account = master.child(1L << 31);
-        Own[] out = new Own[64];
-        for (int branch = 0; branch < 2; branch++) {
-            Key of = account.child(branch);
-            for (int k = 0; k < 32; k++) {
-                Key key = of.child(k);
-                byte[] publicKey = publicKey(key.secret);
-                out[32 * branch + k] = new Own(branch, k, key.secret, publicKey, addressOf(publicKey));
-            }
+    /** The keys of one seed, made when they are first asked for. */
+    static final class Ring {
+        private final Key[] branches = new Key[2];
+        private final Own[] made = new Own[64];
+
+        Ring(byte[] seed) {
+            byte[] zeros = new byte[32];
+            BigInteger secret = big(mac(zeros, join(seed, 0))).mod(N);
+            zerosOfMaster += secret.signum() == 0 ? 1 : 0;
+            Key master = new Key(oneForZero(secret), mac(zeros, join(seed, 1)));
+            Key account = master.child(1L << 31);
+            branches[0] = account.child(0);
+            branches[1] = account.child(1);
         }
-        return out;
+
+        Own get(int branch, int k) {
+            int at = 32 * branch + k;
+            if (made[at] == null) {
+                Key key = branches[branch].child(k);
+                byte[] publicKey = publicKey(key.secret);
+                made[at] = new Own(branch, k, key.secret, publicKey, addressOf(publicKey));
+            }
+            return made[at];
+        }
     }
 
-    static final Map<String, Own[]> SEEDS = new HashMap<>();
+    static final Map<String, Ring> SEEDS = new HashMap<>();
+
+    /** What was kept from earlier runs is of no use once HASH or MAC is another (Weak). */
+    static void forgetAll() {
+        SEEDS.clear();
+        LOOKED_AT.clear();
+    }
 
     // ---- payments and blocks
 
@@ -463,7 +499,7 @@ final class Reference {
     // ---- the object
 
     byte[] tape = new byte[0];
-    Own[] own;
+    Ring own;
     int ahead = 3;
     final List<Made> made = new ArrayList<>();
     final List<Pay> queue = new ArrayList<>();
@@ -523,7 +559,7 @@ final class Reference {
             return BAD;
         }
         byte[] seed = tape;
-        own = SEEDS.computeIfAbsent(text(join(1, seed)), k -> ownKeys(seed));
+        own = SEEDS.computeIfAbsent(text(join(1, seed)), k -> new Ring(seed));
         tape = new byte[0];
         for (Plan plan : drafts) {
             plan.state = 0;
@@ -546,11 +582,11 @@ final class Reference {
     }
 
     int key(int branch, int k, int i) {
-        return isKey(branch, k) && i >= 0 && i < 33 ? own[32 * branch + k].publicKey[i] & 255 : BAD;
+        return isKey(branch, k) && i >= 0 && i < 33 ? own.get(branch, k).publicKey[i] & 255 : BAD;
     }
 
     int address(int branch, int k) {
-        return isKey(branch, k) ? lengthen(own[32 * branch + k].address) : BAD;
+        return isKey(branch, k) ? lengthen(own.get(branch, k).address) : BAD;
     }
 
     // ---- makers
@@ -821,9 +857,9 @@ final class Reference {
 
         List<Own> watched() {
             List<Own> out = new ArrayList<>();
-            for (Own key : own) {
-                if (key.k <= Math.min(31, last[key.branch] + ahead)) {
-                    out.add(key);
+            for (int branch = 0; branch < 2; branch++) {
+                for (int k = 0; k <= Math.min(31, last[branch] + ahead); k++) {
+                    out.add(own.get(branch, k));
                 }
             }
             return out;
@@ -1071,7 +1107,7 @@ final class Reference {
         }
         body = join(body, plan.rest > 0 ? 2 : 1, number(amount, 4), Arrays.copyOf(tape, 20));
         if (plan.rest > 0) {
-            body = join(body, number(plan.rest, 4), own[32 + Math.min(31, scan.last[1] + 1)].address);
+            body = join(body, number(plan.rest, 4), own.get(1, Math.min(31, scan.last[1] + 1)).address);
         }
         plan.pay = new Reader(join(body, new byte[97 * plan.coins.size()])).payment();
         plan.pay.witnesses.clear();

@@ -2,6 +2,7 @@ import java.util.Random;
 
 /** Long runs of likely and unlikely calls, all promises at once, against the reference. */
 public final class WanderTest {
+    private static final int SPARE = 90;
     private static final int[][] PACES = {{0, 9, 10, 13, 14, 40, 41, 50, 53, 54, 60, 1000}, {0, 1, 9}, {20, 40}};
 
     private final Random random;
@@ -39,16 +40,16 @@ public final class WanderTest {
         if (pick(8) > 0) {
             p.plant(pick(3));
         }
-        for (int step = 0; step < steps; step++) {
+        for (int step = 0; step < steps && p.room() > SPARE; step++) {
             step();
             if (pick(12) == 0) {
-                p.look();
+                p.look(3);
             }
         }
         p.look();
-        p.lookAtMade();
+        p.lookAtMade(5);
         p.lookAtLaws();
-        p.lookAtDrafts();
+        p.lookAtDrafts(17);
     }
 
     private void step() {
@@ -77,7 +78,7 @@ public final class WanderTest {
             case 19 -> payMany(blocks);
             case 20 -> payMany(blocks);
             case 21 -> spoilHeaders(blocks);
-            default -> p.look();
+            default -> p.look(3);
         }
     }
 
@@ -198,7 +199,7 @@ public final class WanderTest {
             p.give(b, 2, pick(28), pick(2) == 0 ? 255 : pick(255));
         }
         if (pick(3) == 0) {
-            p.lookAtMade();
+            p.lookAtMade(5);
         }
     }
 

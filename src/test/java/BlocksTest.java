@@ -1,4 +1,6 @@
+import java.util.ArrayList;
 import java.util.Arrays;
+import java.util.List;
 
 /** What 3 BLOCKS says: D, TIME, PROVED, ROOT and FILTER, at the makers and at the purse. */
 public final class BlocksTest {
@@ -28,6 +30,7 @@ public final class BlocksTest {
         addressOnce(due);
         equalNumbers(due);
         filterSteps(due);
+        filterEnds(due);
         due.end();
     }
 
@@ -512,5 +515,54 @@ public final class BlocksTest {
             out[i] = (byte) Integer.parseInt(bits.substring(8 * i, 8 * i + 8), 2);
         }
         return out;
+    }
+
+    /** How many bits numbers have in a filter. */
+    private static int bitsOf(byte[] before, List<byte[]> addresses) {
+        int n = addresses.size();
+        long[] numbers = new long[n];
+        for (int i = 0; i < n; i++) {
+            numbers[i] = Reference.filterNumber(before, addresses.get(i), n);
+        }
+        Arrays.sort(numbers);
+        int bits = 7 * n;
+        long last = 0;
+        for (long one : numbers) {
+            bits += (int) (one - last) / 64;
+            last = one;
+        }
+        return bits;
+    }
+
+    /** "0s behind the last": none, if the bits end with a byte; seven, if one bit is left; and all between. */
+    private static void filterEnds(Due due) {
+        for (int left = 0; left < 8; left++) {
+            Pair p = Pair.rich(due, 12);
+            byte[] before = p.y.made.get(12).header.id;
+            List<byte[]> all = new ArrayList<>();
+            for (int i = 0; i < 12; i++) {
+                all.add(p.y.own.get(0, i).address());
+            }
+            all.add(p.y.own.get(1, 0).address());
+            int n = 0;
+            do {
+                n += 4;
+                while (all.size() > 13) {
+                    all.remove(13);
+                }
+                for (int i = 0; i < 4; i++) {
+                    all.add(stranger(n + i));
+                }
+            } while (bitsOf(before, all) % 8 != left);
+            for (int i = 0; i < 3; i++) {
+                p.clear();
+                p.feed(n + i, 0, 0, 0, 0);
+                p.signAndSend(p.pay(3500, 0));
+            }
+            int b = mineForStranger(p, 12, n + 3);
+            due.is("numbers", p.filterByte(b, 0), 17);
+            due.is("bytes, the last with " + left + " bits", p.block(b, 6), 1 + (bitsOf(before, all) + 7) / 8);
+            filterIs(p, b, Reference.filter(before, all));
+        }
     }
 }

@@ -62,6 +62,7 @@ public final class InsideTest {
         test.lengthOfAPayment();
         test.valuesOfAPayment();
         test.readToTheEnd();
+        test.checkOfSpoiledDraft();
         due.end();
     }
 
@@ -231,6 +232,40 @@ public final class InsideTest {
         for (int first : new int[] {0, 1, 4, 6, 7, 130, 131, 255}) {
             isKey(first, ONE, false);
         }
+    }
+
+    /** Promise 27: a draft's own WITNESSES are RIGHT, so they are spoiled inside of it, one byte at a time. */
+    private void checkOfSpoiledDraft() throws NoSuchFieldException, IllegalAccessException {
+        PurseHouse rich = new PurseHouse();
+        rich.feed(1, 2, 3, 4, 5);
+        rich.seed();
+        for (int b = 0; b < 4; b++) {
+            rich.address(0, b % 3);
+            rich.mine(b, 30);
+        }
+        for (int b = 0; b < 5; b++) {
+            for (int what = 0; what < 3; what++) {
+                rich.give(b, what, 0, 0);
+            }
+        }
+        rich.feed(1, 2, 3, 4, 5);
+        due.is("a draft", rich.pay(3500, 0), 0);
+        due.is("WITNESSES", rich.sign(0), 4);
+        byte[] bytes = (byte[]) inside(((Object[]) inside(rich, "drafts"))[0], "bytes");
+        int body = 2 + 4 * 33 + 48;
+        for (int i = 0; i < 4; i++) {
+            for (int place : new int[] {0, 1, 32, 33, 64, 65, 96}) {
+                bytes[body + 97 * i + place] ^= 1;
+                due.is("WITNESS " + i + " with another byte " + place, rich.check(0), 0);
+                bytes[body + 97 * i + place] ^= 1;
+                due.is("all are RIGHT", rich.check(0), 1);
+            }
+        }
+        byte[] first = Arrays.copyOfRange(bytes, body, body + 97);
+        System.arraycopy(bytes, body + 97, bytes, body, 97);
+        due.is("the WITNESS of another input", rich.check(0), 0);
+        System.arraycopy(first, 0, bytes, body, 97);
+        due.is("all are RIGHT", rich.check(0), 1);
     }
 
     // ---- what can be read

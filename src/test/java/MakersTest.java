@@ -137,6 +137,7 @@ public final class MakersTest {
         p.lookAtMade(3);
     }
 
+    /** "A block that is made has a MINT of 1,000, then those payments that wait .. What was taken .. waits no more." */
     private static void goodOnes(Due due) {
         Pair p = Pair.rich(due, 4);
         int d = p.signAndSend(p.payOut(700, 1));

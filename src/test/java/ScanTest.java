@@ -42,7 +42,9 @@ public final class ScanTest {
         p.address(0, 0);
         p.mine(0, 10);
         p.mine(1, 10);
+        stopIs(p, NONE, 0, NONE);
         p.give(1, 0, 0, 0);
+        stopIs(p, 1, 1, 1);
         p.give(2, 0, 0, 0);
         p.give(2, 1, 0, 0);
         stopIs(p, 1, 1, 1);

@@ -41,7 +41,7 @@ public final class TwinsTest {
         try (URLClassLoader loader = new URLClassLoader(new URL[] {CLASSES.toUri().toURL()},
                 ClassLoader.getPlatformClassLoader())) {
             Method run = loader.loadClass("TwinsTest").getMethod("run", int.class, int.class);
-            run.invoke(null, args.length > 0 ? Integer.parseInt(args[0]) : 4,
+            run.invoke(null, args.length > 0 ? Integer.parseInt(args[0]) : 3,
                     args.length > 1 ? Integer.parseInt(args[1]) : 1);
         }
     }
@@ -62,11 +62,13 @@ public final class TwinsTest {
         countsAsInTheFirst(due);
         Weak.turnOnEdges();
         edges(due);
-        WanderTest.wander(2 * runs, first, due);
+        WanderTest.wander(runs, first, due);
         for (int[] masks : MASKS) {
             Weak.turnOn(masks);
             WanderTest.wander(runs, first, due);
         }
+        Weak.turnOnAddresses(0x07);
+        WanderTest.wander(runs, first, due);
         due.end();
     }
 
@@ -243,34 +245,47 @@ public final class TwinsTest {
 
     /** "(1, if that is 0)" of THE MASTER and of a CHILD; "the first with which k, r, s are not 0". */
     private static void edges(Due due) {
-        for (int n = 0; n < 30; n++) {
+        for (int n = 0; n < 40; n++) {
             Pair p = new Pair(due);
             p.plant(n);
-            for (int branch = 0; branch < 2; branch++) {
-                for (int k = 0; k < 32; k += 5) {
-                    p.key(branch, k, 0);
-                    p.key(branch, k, 1);
-                    p.key(branch, k, 32);
+            for (int k = 0; k < 32; k += 10) {
+                for (int i = 0; i < 33; i += 8) {
+                    p.key(0, k, i);
+                    p.key(1, k + 1, i);
                 }
             }
-            p.giveAll(0);
-            p.mineFor(0, 30, 0, 0);
-            p.mineFor(1, 30, 1, 1);
-            for (int amount = 100; amount < 2000; amount += 150) {
-                int d = p.payOut(amount, 0);
-                if (d >= 0) {
-                    p.signAndSend(d);
-                    due.is("RIGHT", p.check(d), 1);
-                    due.is("GOOD", p.block(p.mine(2, 30), 5), 2);
-                    p.drop(d);
-                }
+            if (n < 4 || isNearZero(p.y.own.get(0, 0)) || isNearZero(p.y.own.get(1, 1))) {
+                signEdges(p);
             }
-            p.lookAtDrafts(17);
         }
         due.yes("a MASTER of 0", Reference.zerosOfMaster > 0);
         due.yes("a CHILD of 0", Reference.zerosOfSecret > Reference.zerosOfMaster);
         due.yes("a k of 0", Reference.zerosOfK > 0);
         due.yes("an s of 0", Reference.zerosOfS > 0);
+    }
+
+    private static boolean isNearZero(Reference.Own key) {
+        return key.secret().bitLength() < 8 || Reference.N.subtract(key.secret()).bitLength() < 8;
+    }
+
+    /** Signs for KEY 0 of BRANCH 0 and KEY 1 of BRANCH 1: both are RIGHT, and GOOD. */
+    private static void signEdges(Pair p) {
+        p.giveAll(0);
+        p.mineFor(0, 30, 0, 0);
+        p.mineFor(1, 30, 1, 1);
+        for (int amount = 100; amount < 2000; amount += 150) {
+            int d = p.payOut(amount, 0);
+            if (d >= 0) {
+                p.signAndSend(d);
+                p.due.is("RIGHT", p.check(d), 1);
+                p.due.is("GOOD", p.block(p.mine(2, 30), 5), 2);
+                int length = p.y.drafts.get(d).bytes().length;
+                for (int i = length - 97; i < length; i += 4) {
+                    p.draftByte(d, i);
+                }
+                p.drop(d);
+            }
+        }
     }
 
     private static String weakened(String source) {

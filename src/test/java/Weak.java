@@ -68,6 +68,11 @@ final class Weak {
         turnOn(length -> length == HEADER, left);
     }
 
+    /** The same, but only ADDRESSES, and the messages that are signed, are weak. */
+    static void turnOnAddresses(int... left) {
+        turnOn(length -> length == PUBLIC_KEY, left);
+    }
+
     /** The same, but only IDS of payments are weak. */
     static void turnOnPayments(int... left) {
         turnOn(Weak::isPayment, left);

@@ -58,6 +58,7 @@ public final class TwinsTest {
         moreThanInputsName(due);
         oneOutputTwice(due);
         anotherAddress(due);
+        namesItsOwnId(due);
         Weak.turnOnHeaders(0, 0x07);
         countsAsInTheFirst(due);
         Weak.turnOnEdges();
@@ -178,6 +179,29 @@ public final class TwinsTest {
             due.is("its own", p.block(p.mine(2, 30), 5), 2);
         }
         due.yes("some came", tried > 1);
+    }
+
+    /** The numbers: of payments with one ID "the first one before it in this block, else .. of the nearest block before". */
+    private static void namesItsOwnId(Due due) {
+        int own = 0;
+        int twice = 0;
+        for (int amount = 300; amount < 360; amount++) {
+            Pair p = Pair.rich(due, 2);
+            p.signAndSend(p.payOwn(1500, 0, 1));
+            p.mineOn(2);
+            int d = p.signAndSend(p.payOut(amount, 0));
+            int e = p.signAndSend(p.payOut(amount - 200, 0));
+            byte[] named = p.y.drafts.get(d).pay.ins.get(0).id();
+            own += Arrays.equals(named, p.y.drafts.get(d).pay.id) ? 1 : 0;
+            twice += Arrays.equals(named, p.y.drafts.get(e).pay.id) ? 1 : 0;
+            p.mineOn(3);
+            p.send(e, 0, 0);
+            p.send(d, 0, 0);
+            p.mineOn(3);
+            p.look();
+            p.lookAtMade(2);
+        }
+        due.yes("some name an ID that is their own, or that comes twice", own > 1 && twice > 1);
     }
 
     private static boolean sameId(Pair p, int a, int b) {

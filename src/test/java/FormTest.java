@@ -1,17 +1,23 @@
+import java.io.PrintWriter;
+import java.io.StringWriter;
 import java.lang.management.ManagementFactory;
 import java.lang.reflect.Executable;
 import java.lang.reflect.Field;
 import java.lang.reflect.Method;
 import java.lang.reflect.Modifier;
+import java.net.URISyntaxException;
 import java.nio.file.Files;
 import java.nio.file.Path;
 import java.util.ArrayList;
 import java.util.Arrays;
 import java.util.HashSet;
 import java.util.List;
+import java.util.Map;
 import java.util.Set;
+import java.util.TreeMap;
 import java.util.regex.Matcher;
 import java.util.regex.Pattern;
+import java.util.spi.ToolProvider;
 
 /** The form that LANGUAGE.md asks of the class, as far as its text, its members and what it makes can tell. */
 public final class FormTest {
@@ -33,6 +39,7 @@ public final class FormTest {
     private final Due due;
     private final String plain;
     private final List<Class<?>> classes = new ArrayList<>();
+    private final Map<String, Set<String>> calls = new TreeMap<>();
 
     private FormTest(Due due, String source) {
         this.due = due;
@@ -53,6 +60,7 @@ public final class FormTest {
         test.loops();
         test.sizes();
         test.lengthOfMethods();
+        test.depthOfCalls();
         test.room();
         due.end();
     }
@@ -197,6 +205,59 @@ public final class FormTest {
             } while (deep > 0 && end < lines.length);
             due.yes((end - i) + " lines:" + lines[i], end - i <= 60);
         }
+    }
+
+    /** Rule 11: "calls that are no recursion go at most eight deep", as the compiled class tells; here nothing recurs. */
+    private void depthOfCalls() throws URISyntaxException {
+        ToolProvider javap = ToolProvider.findFirst("javap").orElse(null);
+        if (javap == null) {
+            return;
+        }
+        Path place = Path.of(PurseHouse.class.getProtectionDomain().getCodeSource().getLocation().toURI());
+        for (Class<?> one : classes) {
+            StringWriter text = new StringWriter();
+            javap.run(new PrintWriter(text), new PrintWriter(text), "-p", "-c",
+                    place.resolve(one.getName() + ".class").toString());
+            gatherCalls(one.getName(), text.toString());
+        }
+        int deepest = 0;
+        for (String method : calls.keySet()) {
+            deepest = Math.max(deepest, depthOf(method, 0));
+        }
+        due.yes("calls " + deepest + " deep", deepest > 2 && deepest <= 8);
+    }
+
+    /** Notes which methods of the class's own each method of one class calls. */
+    private void gatherCalls(String in, String text) {
+        Pattern head = Pattern.compile("^  [^ ].*?([\\w$]+)\\(.*\\);$");
+        Pattern call = Pattern.compile("// (?:Interface)?Method (?:([\\w$/]+)\\.)?(\\w+|\"<init>\"):");
+        Set<String> made = new HashSet<>();
+        for (String line : text.split("\\R")) {
+            Matcher m = head.matcher(line);
+            if (m.find()) {
+                String name = m.group(1).equals(in) ? "<init>" : m.group(1);
+                made = calls.computeIfAbsent(in + "." + name, k -> new HashSet<>());
+            }
+            Matcher c = call.matcher(line);
+            if (c.find()) {
+                made.add((c.group(1) == null ? in : c.group(1)) + "." + c.group(2).replace("\"", ""));
+            }
+        }
+    }
+
+    private int depthOf(String method, int above) {
+        if (!calls.containsKey(method)) {
+            return 0;
+        }
+        if (above > 50) {
+            due.yes(method + " recurs", false);
+            return 0;
+        }
+        int below = 0;
+        for (String next : calls.get(method)) {
+            below = Math.max(below, depthOf(next, above + 1));
+        }
+        return 1 + below;
     }
 
     /** The room of one run: what 512 calls of the dearest kinds make stays far below it, though each byte counts. */

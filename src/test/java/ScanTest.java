@@ -7,6 +7,7 @@ public final class ScanTest {
         Due due = new Due("scan");
         scanStops(due);
         stopsWithinTheChain(due);
+        stopsAtAWantedBlock(due);
         meetsByNumber(due);
         spentWithoutOutput(due);
         watchedByGap(due);
@@ -82,6 +83,35 @@ public final class ScanTest {
         p.give(2, 1, 0, 0);
         stopIs(p, NONE, 0, NONE);
         due.is("all coins", p.sum(0), 4000);
+        due.is("LAST", p.last(0), 2);
+    }
+
+    /** The same where a block is WANTED: coins behind it do not count, and the purse pays with those before it. */
+    private static void stopsAtAWantedBlock(Due due) {
+        Pair p = new Pair(due);
+        p.plant(1);
+        p.giveAll(0);
+        for (int b = 1; b <= 4; b++) {
+            p.clear();
+            p.address(0, b % 3);
+            p.mine(b - 1, 30);
+            p.give(b, 0, 0, 0);
+            p.give(b, 1, 0, 0);
+            if (b != 2) {
+                p.give(b, 2, 0, 0);
+            }
+        }
+        stopIs(p, 2, 2, 2);
+        due.is("one coin", p.coin(-1, 0), 1);
+        due.is("its HEIGHT", p.coin(0, 3), 1);
+        due.is("LAST", p.last(0), 1);
+        due.is("sum", p.sum(0), 1000);
+        due.is("more than the coins before have", p.payOut(1001, 0), PurseHouse.NONE);
+        due.is("a draft", p.payOut(900, 0), 0);
+        p.give(2, 2, 0, 0);
+        stopIs(p, NONE, 0, NONE);
+        due.is("all coins", p.sum(0), 4000);
+        due.is("one is LOCKED", p.sum(1), 3000);
         due.is("LAST", p.last(0), 2);
     }
 

@@ -44,13 +44,11 @@ public final class InsideTest {
 
     public static void main(String[] args) throws Exception {
         Due due = new Due("inside");
-        InsideTest test;
-        try {
-            test = new InsideTest(due);
-        } catch (NoSuchFieldException | NoSuchMethodException e) {
-            System.out.println("inside: the class is built otherwise, nothing was looked at: " + e.getMessage());
+        if (!isBuiltAsHere()) {
+            System.out.println("inside: the class is built otherwise, nothing was looked at");
             return;
         }
+        InsideTest test = new InsideTest(due);
         test.greatAndSmallR();
         test.aboveTheOrder();
         test.greatAndSmallS();
@@ -64,6 +62,11 @@ public final class InsideTest {
         test.readToTheEnd();
         test.checkOfSpoiledDraft();
         due.end();
+    }
+
+    /** A class without a Signer is another one altogether; where there is one, a name that is missing is a fault. */
+    private static boolean isBuiltAsHere() {
+        return Arrays.stream(PurseHouse.class.getDeclaredClasses()).anyMatch(c -> c.getSimpleName().equals("Signer"));
     }
 
     private static Object inside(Object of, String name) throws NoSuchFieldException, IllegalAccessException {

@@ -174,7 +174,7 @@ public final class SendTest {
         due.is("nothing waits", p.waiting(), 0);
     }
 
-    /** "FULL: 12 wait": behind BAD and NONE. */
+    /** "FULL: 12 wait": behind BAD and NONE, and whatever comes, though it can't be read or its values are wrong. */
     private static void sendTwelve(Due due) {
         Pair p = Pair.rich(due, 2);
         p.payOut(500, 0);
@@ -188,6 +188,8 @@ public final class SendTest {
         due.is("the 12th", p.send(0, 0, 0), 1);
         due.is("12 wait", p.send(0, 0, 0), FULL);
         due.is("12 wait", p.send(1, 0, 0), FULL);
+        due.is("12 wait, it can't be read", p.send(1, 0, 2), FULL);
+        due.is("12 wait, a value of 2^31 and more", p.send(1, 2 + 33, 128), FULL);
         due.is("it was not sent", p.draft(1, 4), 2);
         due.is("BAD", p.send(1, 0, 256), BAD);
         due.is("BAD", p.send(2, 0, 0), BAD);
@@ -196,6 +198,7 @@ public final class SendTest {
         due.is("NONE", p.send(1, 0, 0), NONE);
         due.is("12 wait", p.waiting(), 12);
         p.forget();
+        due.is("none waits, it can't be read", p.send(0, 0, 2), 0);
         due.is("none waits", p.send(0, 0, 0), 1);
     }
 

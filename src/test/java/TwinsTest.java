@@ -61,6 +61,7 @@ public final class TwinsTest {
         namesItsOwnId(due);
         Weak.turnOnHeaders(0, 0x07);
         countsAsInTheFirst(due);
+        coinWhereItsHeaderStands(due);
         Weak.turnOnEdges();
         edges(due);
         WanderTest.wander(runs, first, due);
@@ -236,11 +237,15 @@ public final class TwinsTest {
     }
 
     private static int mineOne(Pair p, boolean own, int seconds) {
+        return mineOne(p, 0, own, seconds);
+    }
+
+    private static int mineOne(Pair p, int before, boolean own, int seconds) {
         p.clear();
         if (own) {
             p.address(0, 0);
         }
-        return p.mine(0, seconds);
+        return p.mine(before, seconds);
     }
 
     /** "A filter or block that is taken counts as it is in that block (the first with this ID), whatever was SPOILED." */
@@ -265,6 +270,35 @@ public final class TwinsTest {
             due.is("to the end", p.chain(3), PurseHouse.NONE);
             p.look();
         }
+    }
+
+    /** "THE SCAN goes along ITS CHAIN": a coin's HEIGHT is that of the HEADER, though the first block's is another. */
+    private static void coinWhereItsHeaderStands(Due due) {
+        Pair p = purse(due);
+        int seconds = 0;
+        while (mineOne(p, true, seconds) == 1 && sameId(p, 0, 1)) {
+            p = purse(due);
+            seconds++;
+        }
+        int between = mineOne(p, false, seconds);
+        while (between < 39 && (sameId(p, 0, between) || sameId(p, 1, between))) {
+            seconds++;
+            between = mineOne(p, false, seconds);
+        }
+        int last = mineOne(p, between, false, 0);
+        for (int more = 1; last < 39 && !sameId(p, 1, last); more++) {
+            last = mineOne(p, between, false, more);
+        }
+        due.yes("two blocks have one ID", sameId(p, 1, last));
+        due.is("HEIGHT of the first", p.block(1, 1), 1);
+        due.is("HEIGHT of the other", p.block(last, 1), 2);
+        p.giveAll(between);
+        p.giveAll(last);
+        due.is("the first block with this ID", p.header(2, 5), 1);
+        due.is("HEIGHT of the HEADER", p.header(2, 1), 2);
+        due.is("the first block's payments count", p.coin(-1, 0), 1);
+        due.is("HEIGHT of the coin", p.coin(0, 3), 2);
+        p.look();
     }
 
     /** "(1, if that is 0)" of THE MASTER and of a CHILD; "the first with which k, r, s are not 0". */
